@@ -23,6 +23,7 @@ public final class YearsTest {
         promise21Lapsed();
         promise21LapsedIsFoundAnew();
         promise22Open();
+        yearsThatChangeSides();
         yearsThatAreNotClosed();
         yearsOutOfRange();
         Checks.finish();
@@ -356,6 +357,32 @@ public final class YearsTest {
         x.excuse(1, 360);
         Checks.equal("comes with the next bill", x.close(), open);
         Checks.equal("settled", x.open(), 0);
+    }
+
+    /** A late excuse turns a year with a gap into one without, and back again. */
+    private static void yearsThatChangeSides() {
+        MakeupGas x = small();
+        closeWith(x, 700);
+        closeWith(x, 60);
+        Checks.equal("a gap of 740", x.shortfall(1), 740);
+        x.excuse(1, 360);
+        Checks.equal("no gap: no shortfall", x.shortfall(1), 0);
+        Checks.equal("no gap: no make-up gas comes from it", x.makeUpLeft(1), 0);
+        Checks.equal("no gap: make-up gas is taken", x.madeUp(1), 60);
+        Checks.equal("no gap: it is less", x.makeUpLeft(0), 40);
+        x.excuse(1, 0);
+        Checks.equal("a gap again", x.shortfall(1), 740);
+        Checks.equal("a gap: no make-up gas is taken", x.madeUp(1), 0);
+        Checks.equal("a gap: it is whole again", x.makeUpLeft(0), 100);
+        Checks.equal("a gap: make-up gas comes from it", x.makeUpLeft(1), 740);
+
+        MakeupGas y = small();
+        closeWith(y, 1100);
+        closeWith(y, 750);
+        Checks.equal("a gap of 50", y.covered(1), 50);
+        y.excuse(1, 360);
+        Checks.equal("no gap: nothing is covered", y.covered(1), 0);
+        Checks.equal("no gap: the surplus is whole again", y.surplusLeft(0), 100);
     }
 
     private static void yearsThatAreNotClosed() {
