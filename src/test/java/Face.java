@@ -1,17 +1,19 @@
-/** Reads all that a MakeupGas answers without being told anything: some 250 calls at most. */
+/** Reads all that a MakeupGas answers without being told anything. */
 final class Face {
     private static final int YEARS = 20;
+    private static final int DAYS = 360;
 
     private Face() {
     }
 
+    /** All but the single days, by some 250 calls at most. */
     static String answers(MakeupGas x) {
         StringBuilder text = new StringBuilder();
         int closed = x.closed();
         text.append("closed ").append(closed);
         text.append(" lapsed ").append(x.lapsed());
         text.append(" open ").append(x.open()).append('\n');
-        for (int from = 0; from < 360; from += 12) {
+        for (int from = 0; from < DAYS; from += 12) {
             text.append(x.takenFrom(from, from + 11)).append(' ');
         }
         text.append('\n');
@@ -23,6 +25,15 @@ final class Face {
                 appendClosedYear(text, x, year);
             }
             text.append('\n');
+        }
+        return text.toString();
+    }
+
+    /** What was taken on each day of the year that goes on, by 360 calls. */
+    static String days(MakeupGas x) {
+        StringBuilder text = new StringBuilder();
+        for (int day = 0; day < DAYS; day++) {
+            text.append(x.takenFrom(day, day)).append(' ');
         }
         return text.toString();
     }
